@@ -13,6 +13,7 @@ public final class RunTest {
         requestIsReplaced();
         enabling();
         enablingTwice();
+        enablingWhereEnabled();
         disabling();
         watchdog();
         watchdogFed();
@@ -177,6 +178,17 @@ public final class RunTest {
         Check.due("taken", board.register(Boards.PC), 8);
         Boards.steps(board, 2);
         Check.due("the second EI has no effect left", board.register(Boards.ENABLED), 0);
+    }
+
+    /** An EI that finds them enabled has no effect left when a request comes right behind it. */
+    private static void enablingWhereEnabled() {
+        InvaderBoard board = Boards.with(0x00, 0xFB, 0xC3, 0x01, 0x00);
+        Check.due("the middle falls into an EI", board.run(MIDDLE), MIDDLE + 1);
+        Check.due("enabled", board.register(Boards.ENABLED), 1);
+        board.step();
+        Check.due("taken", board.register(Boards.PC), 8);
+        Boards.steps(board, 2);
+        Check.due("disabled in the handler", board.register(Boards.ENABLED), 0);
     }
 
     private static void disabling() {
