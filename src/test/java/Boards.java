@@ -21,6 +21,12 @@ final class Boards {
     static final int UNFED = 5;
     static final int SHIFTED = 6;
 
+    static final int MIDDLE = 16667;
+    static final int FRAME = 33333;
+
+    /** Where the program of a board from atState or poised begins. */
+    static final int PLACE = 0x40;
+
     private Boards() {
     }
 
@@ -55,5 +61,53 @@ final class Boards {
         while (left > 0) {
             left -= board.run(Math.min(left, 40000));
         }
+    }
+
+    /**
+     * A board on which exactly so many states have gone by (31 at least), all registers but PC as new, at the start
+     * of a program at PLACE. Interrupts are disabled, so requests have come and were not taken.
+     */
+    static InvaderBoard atState(int states, int... program) {
+        int fives = states % 2;
+        int fours = 0;
+        while ((4 * fours + 5 * fives) % 10 != states % 10) {
+            fours++;
+        }
+        InvaderBoard board = new InvaderBoard();
+        int at = 0;
+        for (int i = 0; i < fours; i++) {
+            at = board.load(at, 0x00, 1);
+        }
+        for (int i = 0; i < fives; i++) {
+            at = board.load(at, 0x7F, 1);
+        }
+        board.load(at, 0xC30000 | PLACE << 8, 3);
+        board.load(PLACE, 0xC30000 | PLACE << 8, 3);
+        pass(board, states);
+        loadAt(board, PLACE, program);
+        return board;
+    }
+
+    /** A board with contents of all its registers, at the start of a program at PLACE. */
+    static InvaderBoard poised(int psw, int bc, int de, int hl, int sp, int... program) {
+        InvaderBoard board = with(0x31, 0xFE, 0x23, 0xF1);
+        board.poke(0x23FE, psw);
+        board.poke(0x23FF, psw >> 8);
+        board.load(4, 0x010000 | swapped(bc), 3);
+        board.load(7, 0x110000 | swapped(de), 3);
+        board.load(10, 0x210000 | swapped(hl), 3);
+        board.load(13, 0x310000 | swapped(sp), 3);
+        board.load(16, 0xC30000 | swapped(PLACE), 3);
+        loadAt(board, PLACE, program);
+        steps(board, 7);
+        return board;
+    }
+
+    static int pair(InvaderBoard board, int upper) {
+        return board.register(upper) << 8 | board.register(upper + 1);
+    }
+
+    private static int swapped(int word) {
+        return (word & 255) << 8 | word >> 8;
     }
 }

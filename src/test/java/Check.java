@@ -2,12 +2,18 @@
 final class Check {
     private static int wrong = 0;
     private static int asked = 0;
+    private static Sentence sentence = null;
 
     private Check() {
     }
 
     interface Call {
         void make();
+    }
+
+    /** What is asked from now on is of this sentence of the document. */
+    static void of(Sentence of) {
+        sentence = of;
     }
 
     static void due(String what, long got, long want) {
@@ -37,7 +43,7 @@ final class Check {
     private static void tell(String text) {
         wrong++;
         if (wrong <= 40) {
-            System.out.println(text);
+            System.out.println(text + (sentence == null ? "" : " [" + sentence.section + ": " + sentence.words + "]"));
         }
     }
 

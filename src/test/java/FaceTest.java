@@ -8,9 +8,10 @@ import java.util.TreeSet;
 /** The public face: the document's constructor and methods, and nothing else that is not private. */
 public final class FaceTest {
     private static final Set<String> FACE = Set.of(
-        "int load(int,int,int)", "void reset()", "void input(int,int)", "int step()", "int run(int)",
-        "int register(int)", "int memory(int)", "int poke(int,int)", "int dot(int,int)",
-        "int lit(int,int,int,int)", "int state(int)", "int sounds(int)");
+        "int load(int,int,int) IllegalArgumentException", "void reset()", "void input(int,int) IllegalArgumentException",
+        "int step()", "int run(int) IllegalArgumentException", "int register(int) IllegalArgumentException",
+        "int memory(int)", "int poke(int,int)", "int dot(int,int) IndexOutOfBoundsException", "int lit(int,int,int,int)",
+        "int state(int) IllegalArgumentException", "int sounds(int) IllegalArgumentException");
 
     public static void main(String[] args) {
         Class<?> board = InvaderBoard.class;
@@ -41,6 +42,10 @@ public final class FaceTest {
             text.append(gap).append(p.getName());
             gap = ",";
         }
-        return text.append(")").toString();
+        text.append(")");
+        for (Class<?> e : m.getExceptionTypes()) {
+            text.append(" ").append(e.getSimpleName());
+        }
+        return text.toString();
     }
 }

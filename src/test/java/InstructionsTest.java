@@ -7,12 +7,15 @@ public final class InstructionsTest {
 
     public static void main(String[] args) {
         Random random = new Random(8080);
+        Check.of(Sentence.PROCESSOR);
         for (int code = 0; code < 256; code++) {
             for (int turn = 0; turn < 400; turn++) {
                 compare(code, random);
             }
         }
+        Check.of(Sentence.AUXILIARY);
         compareAllSums();
+        Check.of(Sentence.DAA);
         compareAllDecimals();
         Check.finish();
     }

@@ -1,8 +1,11 @@
 /** Promise 2, load. */
 public final class LoadTest {
     public static void main(String[] args) {
+        Check.of(Sentence.LOAD);
         ordinary();
         edges();
+        overOtherBytes();
+        Check.of(Sentence.LOAD_REFUSED);
         wrong();
         Check.finish();
     }
@@ -30,6 +33,21 @@ public final class LoadTest {
             Check.due("behind the end", board.memory(2048), 0);
             Check.due("the ROM has no mirror", board.memory(0x4000 + 2047), 0);
         }
+    }
+
+    /** What is loaded runs, replaces what was there, and stays when a program writes there. */
+    private static void overOtherBytes() {
+        InvaderBoard board = new InvaderBoard();
+        board.load(0, 0x3C3C3C3C, 4);
+        board.load(1, 0x3D3D, 2);
+        memoryIs(board, 0, 0x3C, 0x3D, 0x3D, 0x3C, 0);
+        Boards.steps(board, 3);
+        Check.due("A", board.register(Boards.A), 255);
+        board.load(3, 0, 1);
+        memoryIs(board, 0, 0x3C, 0x3D, 0x3D, 0, 0);
+        board.load(3, 0x100, 1);
+        memoryIs(board, 0, 0x3C, 0x3D, 0x3D, 0, 0);
+        Check.due("poke", board.poke(0, 1), 0x3C);
     }
 
     private static void wrong() {

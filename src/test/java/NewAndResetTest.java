@@ -1,12 +1,23 @@
 /** Promise 1, a new object; promise 3, reset. */
 public final class NewAndResetTest {
     public static void main(String[] args) {
+        Check.of(Sentence.NEW_OBJECT);
         newRegistersAndState();
         newMemory();
-        resetClearsTheBoard();
-        resetLeavesRest();
+        newBoardsShareNothing();
+        Check.of(Sentence.RESET);
+        resetOfANewBoard();
         resetBeginsFrameAnew();
-        resetDropsRequestAndEnabling();
+        resetBeforeAFramesEnd();
+        Check.of(Sentence.CLEARED_BY_A_RESET);
+        resetClearsTheBoard();
+        resetClearsShifterAndOffset();
+        resetDropsRequest();
+        resetDropsEnabling();
+        resetEndsAHalt();
+        resetFeeds();
+        Check.of(Sentence.KEPT_OVER_A_RESET);
+        resetLeavesRest();
         Check.finish();
     }
 
@@ -98,17 +109,100 @@ public final class NewAndResetTest {
         Check.due("request of the new frame", board.state(Boards.REQUEST), 1);
     }
 
-    private static void resetDropsRequestAndEnabling() {
+    /** A reset in a frame's last state: that frame never ends. */
+    private static void resetBeforeAFramesEnd() {
+        InvaderBoard board = Boards.stepped(1, 0x76);
+        board.run(33332 - 7);
+        board.reset();
+        Check.due("states", board.state(Boards.STATES), 0);
+        board.step();
+        Check.due("states of HLT", board.state(Boards.STATES), 7);
+        board.run(33332 - 7);
+        Check.due("frames", board.state(Boards.FRAMES), 0);
+        board.step();
+        Check.due("frames at the end", board.state(Boards.FRAMES), 1);
+    }
+
+    private static void resetOfANewBoard() {
+        InvaderBoard board = new InvaderBoard();
+        board.reset();
+        board.reset();
+        cleared("reset when new", board);
+        Check.due("frames", board.state(Boards.FRAMES), 0);
+        Check.due("states", board.state(Boards.STATES), 0);
+        Check.due("no states for a reset", board.step(), 4);
+    }
+
+    private static void newBoardsShareNothing() {
+        InvaderBoard one = used();
+        one.input(0, 255);
+        InvaderBoard other = new InvaderBoard();
+        cleared("another", other);
+        Check.due("its screen", other.lit(0, 0, 224, 256), 0);
+        Check.due("its ROM", other.memory(0), 0);
+        Check.due("its sounds", other.sounds(0), 0);
+        other.load(0, 0xDB00, 2);
+        other.step();
+        Check.due("its input", other.register(Boards.A), 0);
+        Check.due("the first one's ROM", one.memory(0), 0x01);
+    }
+
+    /** Both are seen only when the other is set again. */
+    private static void resetClearsShifterAndOffset() {
+        int[] fill = {0x3E, 0xFF, 0xD3, 0x02, 0xD3, 0x04, 0xD3, 0x04};
+        InvaderBoard board = Boards.stepped(4, fill);
+        Check.due("before", board.state(Boards.SHIFTED), 255);
+        board.reset();
+        Boards.loadAt(board, 0, 0x3E, 0x07, 0xD3, 0x02);
+        Boards.steps(board, 2);
+        Check.due("the shifter's both halves", board.state(Boards.SHIFTED), 0);
+        board = Boards.stepped(4, fill);
+        board.reset();
+        Boards.loadAt(board, 0, 0x3E, 0x81, 0xD3, 0x04);
+        Boards.steps(board, 2);
+        Check.due("the offset", board.state(Boards.SHIFTED), 0x81);
+    }
+
+    private static void resetDropsRequest() {
+        for (int states : new int[] {16667, 33333}) {
+            InvaderBoard board = Boards.atState(states, 0x00);
+            Check.due("before", board.state(Boards.REQUEST), states == 16667 ? 1 : 2);
+            board.reset();
+            Check.due("none", board.state(Boards.REQUEST), 0);
+            Boards.loadAt(board, 0, 0xFB, 0x00, 0x00);
+            Boards.steps(board, 3);
+            Check.due("none is taken", board.register(Boards.PC), 3);
+        }
+    }
+
+    private static void resetDropsEnabling() {
         InvaderBoard board = Boards.stepped(1, 0xFB, 0x00);
         board.reset();
         Boards.loadAt(board, 0, 0x00);
         Boards.steps(board, 2);
         Check.due("an EI before a reset is lost", board.register(Boards.ENABLED), 0);
+        board = Boards.stepped(2, 0xFB, 0x00);
+        board.reset();
+        Check.due("disabled", board.register(Boards.ENABLED), 0);
+    }
 
-        InvaderBoard hungry = Boards.stepped(1, 0x76);
-        Boards.pass(hungry, 33333 * 3);
-        Check.due("unfed", hungry.state(Boards.UNFED), 3);
-        hungry.reset();
-        Check.due("fed by reset", hungry.state(Boards.UNFED), 0);
+    private static void resetEndsAHalt() {
+        InvaderBoard board = Boards.stepped(2, 0x3C, 0x76);
+        board.step();
+        board.reset();
+        Check.due("not halted", board.register(Boards.HALTED), 0);
+        Check.due("INR A", board.step(), 5);
+        Check.due("A", board.register(Boards.A), 1);
+    }
+
+    private static void resetFeeds() {
+        InvaderBoard board = Boards.stepped(1, 0x76);
+        Boards.pass(board, 33333 * 15);
+        Check.due("unfed", board.state(Boards.UNFED), 15);
+        board.reset();
+        Check.due("fed", board.state(Boards.UNFED), 0);
+        Boards.pass(board, 33333 * 15);
+        Check.due("15 frames later", board.register(Boards.HALTED), 1);
+        Check.due("unfed then", board.state(Boards.UNFED), 15);
     }
 }

@@ -1,9 +1,13 @@
 /** Promise 7, register. */
 public final class RegisterTest {
     public static void main(String[] args) {
+        Check.of(Sentence.REGISTER);
         each();
+        full();
         flags();
         interruptsAndHalt();
+        enablingFoundDisabled();
+        Check.of(Sentence.REGISTER_REFUSED);
         wrong();
         Check.finish();
     }
@@ -14,6 +18,16 @@ public final class RegisterTest {
         int[] want = {0x11, 0x22, 0x33, 0x44, 0x55, 0x66, 2, 0x77, 0x8899, 18, 0, 0};
         for (int r = 0; r < want.length; r++) {
             Check.due("register " + r, board.register(r), want[r]);
+        }
+    }
+
+    /** The largest content of each. */
+    private static void full() {
+        InvaderBoard board = Boards.poised(0xFFFF, 0xFFFF, 0xFFFF, 0xFFFF, 0xFFFF, 0xC3, 0xFF, 0xFF);
+        board.step();
+        int[] want = {255, 255, 255, 255, 255, 255, 0xD7, 255, 65535, 65535, 0, 0};
+        for (int r = 0; r < want.length; r++) {
+            Check.due("full register " + r, board.register(r), want[r]);
         }
     }
 
@@ -36,6 +50,16 @@ public final class RegisterTest {
             Check.due("enabled behind step " + i, board.register(Boards.ENABLED), enabled[i]);
         }
         Check.due("halted", board.register(Boards.HALTED), 1);
+    }
+
+    /** Behind an EI that found them enabled it is still 1, behind one that found them disabled still 0. */
+    private static void enablingFoundDisabled() {
+        InvaderBoard board = Boards.with(0xFB, 0x00, 0xFB, 0xF3, 0xFB, 0xF3, 0x00);
+        int[] enabled = {0, 1, 1, 0, 0, 0, 0};
+        for (int i = 0; i < enabled.length; i++) {
+            board.step();
+            Check.due("enabled behind instruction " + i, board.register(Boards.ENABLED), enabled[i]);
+        }
     }
 
     private static void wrong() {

@@ -1,9 +1,14 @@
 /** Promise 13, sounds. */
 public final class SoundsTest {
     public static void main(String[] args) {
+        Check.of(Sentence.SOUNDS);
         eachBit();
+        allBits();
         risesOnly();
+        sameValueAgain();
         resetLetsBitsRiseAgain();
+        resetIsNoOut();
+        Check.of(Sentence.SOUNDS_REFUSED);
         wrong();
         Check.finish();
     }
@@ -14,6 +19,29 @@ public final class SoundsTest {
             for (int other = 0; other < 16; other++) {
                 Check.due("sound " + other + " by bit " + bit, board.sounds(other), other == bit ? 1 : 0);
             }
+        }
+    }
+
+    private static void allBits() {
+        InvaderBoard board = Boards.stepped(3, 0x3E, 0xFF, 0xD3, 0x03, 0xD3, 0x05);
+        for (int bit = 0; bit < 16; bit++) {
+            Check.due("sound " + bit, board.sounds(bit), 1);
+        }
+    }
+
+    private static void sameValueAgain() {
+        InvaderBoard board = Boards.stepped(5, 0x3E, 0xFF, 0xD3, 0x03, 0xD3, 0x03, 0xD3, 0x03, 0xD3, 0x05);
+        Check.due("sound 0", board.sounds(0), 1);
+        Check.due("sound 8", board.sounds(8), 1);
+    }
+
+    /** A reset turns bits to 0, which is no sound; nor does it count when they are 0 already. */
+    private static void resetIsNoOut() {
+        InvaderBoard board = Boards.stepped(2, 0x3E, 0x01, 0xD3, 0x03);
+        board.reset();
+        board.reset();
+        for (int bit = 0; bit < 16; bit++) {
+            Check.due("sound " + bit, board.sounds(bit), bit == 0 ? 1 : 0);
         }
     }
 

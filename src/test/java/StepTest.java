@@ -9,6 +9,7 @@ public final class StepTest {
     };
 
     public static void main(String[] args) {
+        Check.of(Sentence.PROCESSOR);
         statesOfCodes();
         statesOfConditions();
         arithmetic();
@@ -18,10 +19,10 @@ public final class StepTest {
         words();
         stack();
         jumpsAndCalls();
-        codesLeftOpen();
-        programCounterWraps();
-        romStaysUnderInstructions();
-        halt();
+        Check.of(Sentence.STEP);
+        oneInstruction();
+        oneRequest();
+        oneState();
         Check.finish();
     }
 
@@ -225,48 +226,33 @@ public final class StepTest {
         Check.due("SPHL", board.register(Boards.SP), 0x145);
     }
 
-    private static void codesLeftOpen() {
-        for (int code = 8; code < 0x40; code += 8) {
-            InvaderBoard board = Boards.stepped(1, code, 0x11, 0x22);
-            for (int r = 0; r < 12; r++) {
-                int want = r == Boards.FLAGS ? 2 : r == Boards.PC ? 1 : 0;
-                Check.due("register " + r + " behind " + code, board.register(r), want);
-            }
+    private static void oneInstruction() {
+        InvaderBoard board = Boards.with(0x3C, 0x3C, 0x01, 0x22, 0x11, 0xE3);
+        int[] states = {5, 5, 10, 18, 4};
+        int[] places = {1, 2, 5, 6, 7};
+        int gone = 0;
+        for (int i = 0; i < states.length; i++) {
+            Check.due("step " + i, board.step(), states[i]);
+            gone += states[i];
+            Check.due("PC behind step " + i, board.register(Boards.PC), places[i]);
+            Check.due("states behind step " + i, board.state(Boards.STATES), gone);
         }
-        Check.due("CB", Boards.stepped(1, 0xCB, 0x34, 0x12).register(Boards.PC), 0x1234);
-        InvaderBoard board = Boards.with(0x31, 0x00, 0x20, 0xD9);
-        board.poke(0x2000, 0x78);
-        board.poke(0x2001, 0x56);
+        Check.due("A", board.register(Boards.A), 2);
+    }
+
+    /** The step that takes a request doesn't run the first instruction of its handler. */
+    private static void oneRequest() {
+        InvaderBoard board = Boards.atState(Boards.MIDDLE, 0xFB, 0x00, 0x3C);
+        Boards.loadAt(board, 8, 0x3C);
         Boards.steps(board, 2);
-        Check.due("D9", board.register(Boards.PC), 0x5678);
-        Check.due("D9: SP", board.register(Boards.SP), 0x2002);
-        int[] calls = {0xCD, 0xDD, 0xED, 0xFD};
-        for (int code : calls) {
-            board = Boards.stepped(2, 0x31, 0x00, 0x24, code, 0x34, 0x12);
-            Check.due("call", board.register(Boards.PC), 0x1234);
-            Check.due("call: SP", board.register(Boards.SP), 0x23FE);
-            Check.due("call: pushed", board.memory(0x23FE), 6);
-        }
+        Check.due("a request", board.step(), 11);
+        Check.due("PC", board.register(Boards.PC), 8);
+        Check.due("A", board.register(Boards.A), 0);
+        Check.due("its first instruction", board.step(), 5);
+        Check.due("A then", board.register(Boards.A), 1);
     }
 
-    /** JMP at the last address, its operand at the first ones. */
-    private static void programCounterWraps() {
-        InvaderBoard board = Boards.with(0xC3, 0xFF, 0xFF);
-        board.poke(0xFFFF, 0x3E);
-        Boards.steps(board, 2);
-        Check.due("MVI over the end", board.register(Boards.A), 0xC3);
-        Check.due("PC", board.register(Boards.PC), 1);
-    }
-
-    private static void romStaysUnderInstructions() {
-        InvaderBoard board = Boards.stepped(2, 0x3E, 0x55, 0x32, 0x00, 0x01);
-        Check.due("STA to ROM", board.memory(0x0100), 0);
-        board = Boards.stepped(3, 0x21, 0x00, 0x08, 0x36, 0x07, 0x34);
-        Check.due("INR M above the ROM", board.memory(0x0800), 0);
-        Check.due("its flags", board.register(Boards.FLAGS), 2);
-    }
-
-    private static void halt() {
+    private static void oneState() {
         InvaderBoard board = Boards.with(0x76, 0x3C);
         Check.due("HLT", board.step(), 7);
         Check.due("halted", board.register(Boards.HALTED), 1);
