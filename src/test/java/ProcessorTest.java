@@ -23,6 +23,10 @@ public final class ProcessorTest {
         stackPointerWraps();
         exchangeOverTheEnd();
         wordsOverTheEnd();
+        accumulatorByPairs();
+        pairsExchanged();
+        everyMove();
+        everyRotation();
         Check.of(Sentence.CODES_LEFT_OPEN);
         codesThatDoNothing();
         codesThatAreOthers();
@@ -268,6 +272,76 @@ public final class ProcessorTest {
         board = Boards.poised(NONE, 0, 0, 0x1234, 0, 0x22, 0xFF, 0x3F, 0x2A, 0xFF, 0x3F);
         Boards.steps(board, 2);
         Check.due("SHLD at 16383: the upper is lost", Boards.pair(board, Boards.H), 0x0034);
+    }
+
+    /** STAX and LDAX, at the ends of RAM. */
+    private static void accumulatorByPairs() {
+        for (int pair = 0; pair < 2; pair++) {
+            for (int address : new int[] {0x2000, 0x3FFF, 0xFFFF}) {
+                int bc = pair == 0 ? address : 0x2222;
+                int de = pair == 1 ? address : 0x2222;
+                InvaderBoard board = Boards.poised(0x9602, bc, de, 0x2222, 0, 0x02 + 16 * pair, 0xAF, 0x0A + 16 * pair);
+                Check.due("STAX " + pair + ": states", board.step(), 7);
+                Check.due("STAX " + pair + " at " + address, board.memory(address), 0x96);
+                Check.due("STAX " + pair + ": nowhere else", board.memory(0x2222), 0);
+                board.step();
+                Check.due("LDAX " + pair + ": states", board.step(), 7);
+                Check.due("LDAX " + pair + " at " + address, board.register(Boards.A), 0x96);
+            }
+        }
+    }
+
+    private static void pairsExchanged() {
+        InvaderBoard board = Boards.poised(ALL, 0x1122, 0xFF00, 0x5566, 0x7788, 0xEB);
+        Check.due("XCHG", board.step(), 4);
+        Check.due("XCHG: DE", Boards.pair(board, Boards.D), 0x5566);
+        Check.due("XCHG: HL", Boards.pair(board, Boards.H), 0xFF00);
+        Check.due("XCHG: BC", Boards.pair(board, Boards.B), 0x1122);
+        Check.due("XCHG: SP", board.register(Boards.SP), 0x7788);
+        Check.due("XCHG: flags", board.register(Boards.FLAGS), ALL);
+    }
+
+    /** MOV: every place to every other, with memory at HL as place 6. */
+    private static void everyMove() {
+        for (int code = 0x40; code < 0x80; code++) {
+            int to = code >> 3 & 7;
+            int from = code & 7;
+            if (code == 0x76) {
+                continue;
+            }
+            InvaderBoard board = Boards.poised(0x9900 | ALL, 0x1122, 0x3344, 0x2566, 0, code);
+            board.poke(0x2566, 0x77);
+            int[] want = {0x11, 0x22, 0x33, 0x44, 0x25, 0x66, 0x77, 0x99};
+            want[to] = want[from];
+            String name = "MOV " + Integer.toHexString(code);
+            Check.due(name + ": states", board.step(), to == 6 || from == 6 ? 7 : 5);
+            for (int place = 0; place < 8; place++) {
+                int got = place == 6 ? board.memory(0x2566) : board.register(place);
+                Check.due(name + ": place " + place, got, want[place]);
+            }
+            Check.due(name + ": flags", board.register(Boards.FLAGS), ALL);
+        }
+    }
+
+    /** RLC, RRC, RAL, RAR of every byte; no flag but CARRY turns. */
+    private static void everyRotation() {
+        for (int a = 0; a < 256; a++) {
+            for (int flags : new int[] {NONE, ALL}) {
+                int carry = flags & CARRY;
+                rotation(0x07, a, flags, a * 2 % 256 + a / 128, a / 128);
+                rotation(0x0F, a, flags, a / 2 + a % 2 * 128, a % 2);
+                rotation(0x17, a, flags, a * 2 % 256 + carry, a / 128);
+                rotation(0x1F, a, flags, a / 2 + carry * 128, a % 2);
+            }
+        }
+    }
+
+    private static void rotation(int code, int a, int flags, int wantA, int wantCarry) {
+        InvaderBoard board = Boards.poised(a << 8 | flags, 0, 0, 0, 0, code);
+        String name = Integer.toHexString(code) + " of " + a + " with flags " + flags;
+        Check.due(name + ": states", board.step(), 4);
+        Check.due(name, board.register(Boards.A), wantA);
+        Check.due(name + ": flags", board.register(Boards.FLAGS), flags & ~CARRY | wantCarry);
     }
 
     private static void codesThatDoNothing() {
