@@ -23,6 +23,13 @@ final class Check {
         }
     }
 
+    static void due(String what, String got, String want) {
+        asked++;
+        if (!got.equals(want)) {
+            tell(what + " answered '" + got + "', due is '" + want + "'");
+        }
+    }
+
     static void refused(String what, Class<? extends RuntimeException> kind, Call call) {
         asked++;
         try {

@@ -4,8 +4,12 @@ import java.nio.file.Files;
 import java.nio.file.Path;
 import java.util.LinkedHashMap;
 import java.util.Map;
+import java.util.Set;
+import java.util.TreeSet;
+import java.util.regex.Matcher;
+import java.util.regex.Pattern;
 
-/** Every sentence of the document's terms and promises is in Sentence, and has a test that names it. */
+/** Every sentence of the document that says what the board is or does is in Sentence, and has a test that names it. */
 public final class DocumentTest {
     private static final Path DOCUMENT = Path.of("../shared/DOC.md");
     private static final Path TESTS = Path.of("src/test/java");
@@ -13,7 +17,9 @@ public final class DocumentTest {
     public static void main(String[] args) throws IOException {
         everySentenceHasATest();
         if (Files.isReadable(DOCUMENT)) {
-            everySentenceIsTheDocuments(sections());
+            Map<String, String> sections = sections();
+            faceIsTheDocuments(sections.getOrDefault("The public face", ""));
+            everySentenceIsTheDocuments(sections);
         } else {
             System.out.println("no " + DOCUMENT + " here to compare the sentences with");
         }
@@ -32,6 +38,21 @@ public final class DocumentTest {
         }
     }
 
+    /** What FaceTest asks of the class is what the document declares. */
+    private static void faceIsTheDocuments(String section) {
+        Set<String> declared = new TreeSet<>();
+        Matcher method = Pattern.compile("public (\\w+ \\w+)\\(([^)]*)\\)(?: throws (\\w+))?;").matcher(section);
+        while (method.find()) {
+            String types = method.group(2).replaceAll("(\\w+) \\w+", "$1").replace(" ", "");
+            String refuses = method.group(3) == null ? "" : " " + method.group(3);
+            declared.add(method.group(1) + "(" + types + ")" + refuses);
+        }
+        Check.due("the document's methods", declared.toString(), new TreeSet<>(FaceTest.FACE).toString());
+        Check.due("its constructor", section.contains(" public InvaderBoard();") ? 1 : 0, 1);
+        Check.due("its class", section.contains(" public final class InvaderBoard {") ? 1 : 0, 1);
+        Check.due("all that it declares", section.split(";").length - 1, declared.size() + 1);
+    }
+
     private static void everySentenceIsTheDocuments(Map<String, String> sections) {
         for (Sentence s : Sentence.values()) {
             String text = sections.getOrDefault(s.section, "");
@@ -45,7 +66,7 @@ public final class DocumentTest {
         for (Map.Entry<String, String> section : sections.entrySet()) {
             boolean promise = section.getKey().startsWith("Promise ");
             promises += promise ? 1 : 0;
-            if (promise || section.getKey().equals("Terms")) {
+            if (promise || section.getKey().equals("Terms") || section.getKey().equals("What it is")) {
                 String left = section.getValue().replaceFirst("`[^`]*`:", "").trim();
                 Check.due("letters of '" + section.getKey() + "' without a sentence: " + left, left.length(), 0);
             }

@@ -15,6 +15,7 @@ public final class RandomRunsTest {
     }
 
     public static void main(String[] args) {
+        Check.of(Sentence.WHAT_IT_IS);
         for (int seed = 0; seed < 500; seed++) {
             RandomRunsTest test = new RandomRunsTest(seed);
             test.fillRom();

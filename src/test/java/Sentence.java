@@ -3,6 +3,9 @@
  * looks whether they are all there, word by word, and whether each of them has a test.
  */
 enum Sentence {
+    WHAT_IT_IS("What it is",
+        "An arcade board: an 8080 processor counted in states, memory with its mirrors and a screen of one bit a dot, a "
+        + "shift register at ports, two interrupts a frame, inputs, sound latches."),
     USED_FOR_512_CALLS("What it is",
         "An object is used for at most 512 calls after it has been made; what later calls answer is free."),
 
